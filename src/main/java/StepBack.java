@@ -24,7 +24,7 @@ public final class StepBack {
     private final Lift lift = new Lift();
     private final Debts debts = new Debts();
     private final Readings readings = new Readings();
-    private final Trace steps = new Trace();
+    private final Trace traceLeft = new Trace();
     private int count;
     private int ground;
     private int there;
@@ -426,12 +426,12 @@ public final class StepBack {
 
     public int tell(int p) {
         Plain who = personAt(p);
-        return who == null ? UNKNOWN : who.telling(steps);
+        return who == null ? UNKNOWN : who.telling(traceLeft);
     }
 
     public int hear(int p) {
         Plain who = personAt(p);
-        return who == null ? UNKNOWN : who.heardAs(steps);
+        return who == null ? UNKNOWN : who.heardAs(traceLeft);
     }
 
     public int as(int p, int kind) {
@@ -447,7 +447,7 @@ public final class StepBack {
     }
 
     public int trace() {
-        return steps.value;
+        return traceLeft.value;
     }
 
     public int fault() {

@@ -178,7 +178,11 @@ public final class PromiseTest {
         due("is owed", x.ofPerson(0, 7), 0);
         due("cleared", x.cleared(0), 0);
         due("trace stays", x.trace(), 1);
+        x.hurry(0, 9);
+        due("0 goes", x.go(), 0);
+        due("0 owes", x.owes(0, 1), 5);
         due("longer line", take(x, 0, 0, FIVE), 5);
+        due("0 owes nothing", x.owes(0, 1), 0);
         due("balance", x.balance(1), 10000);
     }
 
@@ -484,6 +488,11 @@ public final class PromiseTest {
         due("were v", x.were(0, 18, 0), 0);
         due("were what", x.were(0, 0, 3), OUTSIDE);
         due("were what", x.were(0, 0, -1), OUTSIDE);
+        // 0 goes to 3 past either of the others, or both, as they stop at 2.
+        StepBack either = lineOf("m9;p90;p20;p20");
+        due("were with either", either.were(0, 3, 0), 3);
+        due("the least of them", either.were(0, 3, 1), 3);
+        due("in all of them", either.were(0, 3, 2), 1);
         StepBack still = lineOf("m0;p00;p00;p00");
         due("at no steps", still.were(1, 0, 0), 2);
         due("at no steps", still.were(1, 0, 1), 2);
@@ -583,10 +592,15 @@ public final class PromiseTest {
         due("sheet size", x.sheet(0, 0, -1), SIZE);
         due("fault", x.fault(), 4);
         due("sheet size", x.sheet(0, 0, LOW), SIZE);
+        due("sheet refused", x.sheet(0, 0, 61), OUTSIDE);
+        due("fault", x.fault(), 0);
         due("what was there stays", x.cell(0, 1, 2), 7);
+        x.put(0, 0, 8);
+        x.sheet(0, 0, -1);
         due("sheet", x.sheet(0, 2, 60), 1);
         due("fault", x.fault(), 0);
         due("a new row is 0", x.cell(0, 1, 2), 0);
+        due("a new row is 0", x.cell(0, 0, 2), 0);
         due("the last cell", x.put(0, 59, 1), 1);
         due("sheet of none", x.sheet(0, 0, 0), 1);
         due("no cell", x.put(0, 0, 1), INDEX);
@@ -625,8 +639,12 @@ public final class PromiseTest {
         due("put index", x.put(0, -1, 0), INDEX);
         due("put index", x.put(0, HIGH, 0), INDEX);
         due("fault", x.fault(), 3);
+        due("put", x.put(0, 0, 0), 1);
+        due("fault", x.fault(), 0);
         due("put null", x.put(3, -1, 0), NULL);
         due("fault", x.fault(), 1);
+        due("put refused", x.put(4, 0, 0), UNKNOWN);
+        due("fault", x.fault(), 0);
         due("cell k", x.cell(4, 0, 3), LOST);
         due("fault", x.fault(), 0);
         x.put(3, 0, 0);
