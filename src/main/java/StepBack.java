@@ -175,6 +175,9 @@ public final class StepBack {
         if (count == 0) {
             return STATE;
         }
+        if (!allNameSomebody(row, i, n)) {
+            return UNKNOWN;
+        }
         return callsTold(row, i, n, what);
     }
 
@@ -607,7 +610,16 @@ public final class StepBack {
 
     // ---- CALLS that are told
 
-    /** Pair by pair: what comes first answers, a pair that is wrong or one that names nobody. */
+    /** Asked ahead of any answer, as a FIRST WRONG is an answer and a refusal comes ahead of it. */
+    private boolean allNameSomebody(Row row, int i, int n) {
+        for (int k = 0; k < n; k++) {
+            if (personAt(row.read(i + 2 * k)) == null) {
+                return false;
+            }
+        }
+        return true;
+    }
+
     private int callsTold(Row row, int i, int n, int what) {
         int[] now = maysNow();
         int far = 0;
@@ -615,10 +627,7 @@ public final class StepBack {
         for (int k = 0; k < n; k++) {
             int p = row.read(i + 2 * k);
             int told = row.read(i + 2 * k + 1);
-            if (personAt(p) == null) {
-                return UNKNOWN;
-            }
-            if (!has(there, p) || now[p] < told || told <= far) {
+            if (personAt(p) == null || !has(there, p) || now[p] < told || told <= far) {
                 return what == 1 ? k : -PLACE_RAISED - k;
             }
             far = told;

@@ -245,10 +245,13 @@ public final class ModelTest {
             within(what, 0, 3);
             int[] cells = cells(sheet, lane, i, 2L * n);
             need(!people.isEmpty(), -3);
+            for (int k = 0; k < n; k++) {
+                person(cells[2 * k]);
+            }
             int far = 0;
             int head = -9;
             for (int k = 0; k < n; k++) {
-                Person q = person(cells[2 * k]);
+                Person q = people.get(cells[2 * k]);
                 int steps = cells[2 * k + 1];
                 boolean right = there.contains(q.number) && steps <= may(q) && far < steps;
                 if (!right) {

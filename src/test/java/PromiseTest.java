@@ -318,12 +318,37 @@ public final class PromiseTest {
         dueCalls(x, -102, 2, -102, -102, 0, 1, 1, 2, 2, 4, 0, 3);
         dueCalls(x, UNKNOWN, UNKNOWN, UNKNOWN, UNKNOWN, 0, 1, 5, 2);
         dueCalls(x, UNKNOWN, UNKNOWN, UNKNOWN, UNKNOWN, -1, 2);
-        dueCalls(x, -100, 0, -100, -100, 0, 0, 5, 2);
         due("go", x.go(), 1);
         dueCalls(x, 0, NONE, NONE, 4);
         dueCalls(x, -100, 0, -100, -100, 1, 1);
         dueCalls(x, 2, NONE, 2, 1, 2, 2);
         due("nothing is changed", x.many(2), 4);
+    }
+
+    /** One pair that names nobody refuses the row, wherever it stands and whatever is wrong ahead of it. */
+    private static void promise11NamesNobody() {
+        StepBack x = lineOf(FIVE);
+        dueUnknownCalls(x, 0, 0, 5, 2);
+        dueUnknownCalls(x, 5, 2, 0, 0);
+        dueUnknownCalls(x, 0, 9, 0, 1, -1, 2);
+        dueUnknownCalls(x, 0, 2, 1, 2, 0, 3, HIGH, 0);
+        dueUnknownCalls(x, 0, 0, LOW, 0, 0, 1);
+        dueUnknownCalls(x, 0, 0, 32, 1);
+        due("go", x.go(), 1);
+        dueUnknownCalls(x, 1, 1, 5, 2);
+        dueCalls(x, -100, 0, -100, -100, 1, 1, 4, 2);
+        told(x, 0, 0, 5, 2);
+        due("the pair that names nobody is not told", x.calls(1, 2, 0, 1, 0), -100);
+        due("the pair that names nobody is not told", x.calls(1, 2, 0, 1, 1), 0);
+        due("index ahead of it", x.calls(1, 2, 0, 20, 0), INDEX);
+        due("fault", x.fault(), 3);
+        due("refused", x.calls(1, 2, 0, 2, 1), UNKNOWN);
+        due("a refusal has no fault", x.fault(), 0);
+        due("nothing is changed", x.many(2), 4);
+    }
+
+    private static void dueUnknownCalls(StepBack x, int... pairs) {
+        dueCalls(x, UNKNOWN, UNKNOWN, UNKNOWN, UNKNOWN, pairs);
     }
 
     private static void promise11Refusals() {
@@ -777,6 +802,7 @@ public final class PromiseTest {
         promises9And10Owes();
         paysIsOfThatOne();
         promise11Calls();
+        promise11NamesNobody();
         promise11Refusals();
         promise12Order();
         promise13Loss();
