@@ -212,6 +212,22 @@ public final class LineEdges extends Edges {
         due("the first reading", x.reading(5, 0, 0), 0);
     }
 
+    private static void textTakenForgetsWhatEachOwedToEach() {
+        for (int p = 0; p < 6; p++) {
+            for (int other = 0; other < 6; other++) {
+                if (p != other) {
+                    StepBack x = lineOf("m0;p00;p00;p00;p00;p00;p00");
+                    due("goes", goOf(x, p, p < other ? 3 : 2, other, 2), p);
+                    due("owes", x.owes(p, other), p < other ? 3 : 2);
+                    due("line again", x.line(0, BYTES, 0, 26), 6);
+                    due("owes nothing", x.owes(p, other), 0);
+                    due("is owed nothing", x.ofPerson(other, 7), 0);
+                    due("nothing is to be cleared", x.cleared(0) + x.cleared(1), 0);
+                }
+            }
+        }
+    }
+
     /** Who stands behind the new people is no person any more, and owes nothing when it is one again. */
     private static void fewerPeopleThanBefore() {
         StepBack x = lineOf("m9;p00;p00;p00;p00;p99;p99");
@@ -542,6 +558,7 @@ public final class LineEdges extends Edges {
         besideTheDigits();
         lettersOfTheKinds();
         textTakenMakesAllAnew();
+        textTakenForgetsWhatEachOwedToEach();
         fewerPeopleThanBefore();
         textWithAFirstFaultChangesNothing();
         textIsTakenAndItsSheetStays();

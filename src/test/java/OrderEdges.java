@@ -418,6 +418,14 @@ public final class OrderEdges extends Edges {
         due("0 alone is in all", x.were(0, 3, 2), 1);
     }
 
+    /** MAYs 1, 2, 3, 2: 2 comes to 3 past 0 and 1 (7), past 3 alone (12), past all (15). */
+    private static void wereTheLeastAsANumber() {
+        StepBack x = lineOf("m0;p11;p22;p33;p22");
+        due("how many", x.were(2, 3, 0), 3);
+        due("the least as a number, not by how many it has", x.were(2, 3, 1), 7);
+        due("2 alone is in all", x.were(2, 3, 2), 4);
+    }
+
     public static void main(String[] args) {
         orderFrom0To5();
         orderOfAsManyAsAreThere();
@@ -452,6 +460,7 @@ public final class OrderEdges extends Edges {
         wereAllSetsThatHaveAny();
         wereInPlaceOfThoseWhoAre();
         wereTheLeastAndThoseInAll();
+        wereTheLeastAsANumber();
         end();
     }
 }

@@ -224,6 +224,20 @@ public final class ReadingEdges extends Edges {
         dueSets(x, 0, 24, 1022, 1);
     }
 
+    /** MAYs 5 and 8: what is read of 0 is so, what is read of 1 is not. */
+    private static void readingsOfOthersMustBeSo() {
+        StepBack x = lineOf(FIVE);
+        x.reading(0, 4, 1);
+        x.reading(1, 8, 1);
+        dueSets(x, 0, 0, 0, 0);
+        dueSets(x, 1, 992, 0, 0);
+        dueSets(x, 2, 0, 0, 0);
+        x.hurry(1, 5);
+        dueSets(x, 0, 992, 1016, 3);
+        dueSets(x, 1, 992, 128 + 256 + 512, 2);
+        dueSets(x, 2, ALL_DIGITS, ALL_DIGITS, ALL_KINDS);
+    }
+
     private static void setsOfOneWhoIsDown() {
         StepBack x = lineOf(FIVE);
         x.reading(1, 7, 1);
@@ -355,6 +369,7 @@ public final class ReadingEdges extends Edges {
         roomsInPlaceOfItsOwn();
         kindsInPlaceOfItsOwn();
         allReadingsMustBeSo();
+        readingsOfOthersMustBeSo();
         setsOfOneWhoIsDown();
         setsChangeNothing();
         setsOfNobody();
