@@ -13,14 +13,10 @@ import java.util.regex.Pattern;
 /** The public face is the document's and no more; the source keeps out what LANGUAGE.md rules out. */
 public final class FaceTest {
     private static final String SOURCE = "src/main/java/StepBack.java";
-    private static final String FACE = "int line(int,int,int,int)|int ofPerson(int,int)|int hurry(int,int)"
-        + "|int wall(int,int)|int lease(int)|int go()|int morning()|int owes(int,int)|int pays(int,int,int)"
-        + "|int calls(int,int,int,int,int)|int order(int,int)|int loss(int)|int let(int,int)|int balance(int)"
-        + "|int cleared(int)|int were(int,int,int)|int reading(int,int,int)|int back(int)|int hastes(int)"
-        + "|int rooms(int)|int kinds(int)|long odds(int,int)|int sheet(int,int,int)|int lose(int)"
-        + "|int put(int,int,int)|long cell(int,int,int)|int copy(int,int,int,int,int)|int tell(int)|int hear(int)"
-        + "|int as(int,int)|int trace()|int fault()|int many(int)";
-    private static final Set<String> CONSTANTS = Set.of("UNKNOWN", "OUTSIDE", "STATE", "FULL", "NONE", "LOST");
+    private static final Path DOCUMENT = Path.of("../shared/DOC.md");
+    private static final Pattern METHOD = Pattern.compile("(?m)^    public (int|long) (\\w+)\\((.*)\\);$");
+    private static final Pattern CONSTANTS = Pattern.compile("(?m)^    public static final (int|long) (.*);$");
+    private static final int METHODS_DUE = 33, CONSTANTS_DUE = 6, MOST_LINES = 60, MOST_FIELDS = 20;
     private static final String RULED_OUT = "\\b(throw|throws|try|catch|synchronized|assert|import|package|Exact"
         + "|Exception|Object|System\\.(?!arraycopy)|Random|Thread|hashCode|toString|equals)\\b|->|::|@";
 
@@ -41,10 +37,57 @@ public final class FaceTest {
         return s.append(')').toString();
     }
 
-    private static void face() {
+    /** "int owes(int p, int other);" is told as "int owes(int,int)". */
+    private static Set<String> methodsOf(String document) {
+        Set<String> due = new TreeSet<>();
+        Matcher m = METHOD.matcher(document);
+        while (m.find()) {
+            String types = m.group(3).replaceAll("(\\w+) \\w+", "$1").replace(" ", "");
+            due.add(m.group(1) + " " + m.group(2) + "(" + types + ")");
+        }
+        must(due.size() == METHODS_DUE, "the document has " + METHODS_DUE + " methods");
+        return due;
+    }
+
+    /** Names with types and values, as in "int NONE = -9". */
+    private static Set<String> constantsOf(String document) {
+        Set<String> due = new TreeSet<>();
+        Matcher m = CONSTANTS.matcher(document);
+        while (m.find()) {
+            for (String constant : m.group(2).split(", ")) {
+                due.add(m.group(1) + " " + constant.replace("Long.MIN_VALUE", Long.toString(Long.MIN_VALUE)));
+            }
+        }
+        must(due.size() == CONSTANTS_DUE, "the document has " + CONSTANTS_DUE + " constants");
+        return due;
+    }
+
+    private static void fields(Set<String> due) throws IllegalAccessException {
+        Set<String> found = new TreeSet<>();
+        for (Field f : StepBack.class.getDeclaredFields()) {
+            if (Modifier.isPublic(f.getModifiers()) && Modifier.isStatic(f.getModifiers())) {
+                found.add(f.getType().getName() + " " + f.getName() + " = " + f.get(null));
+            } else {
+                must(Modifier.isPrivate(f.getModifiers()), "private " + f);
+            }
+        }
+        must(found.equals(due), "the constants are the document's: " + found);
+    }
+
+    private static void fieldsOfAny(Class<?> c) {
+        int many = 0;
+        for (Field f : c.getDeclaredFields()) {
+            must(!Modifier.isStatic(f.getModifiers()) || Modifier.isFinal(f.getModifiers()), "final " + f);
+            many += Modifier.isStatic(f.getModifiers()) ? 0 : 1;
+        }
+        must(many <= MOST_FIELDS, "some twenty fields: " + c);
+    }
+
+    private static void face() throws IOException, IllegalAccessException {
         Class<?> c = StepBack.class;
+        String document = Files.readString(DOCUMENT);
         must(Modifier.isPublic(c.getModifiers()) && Modifier.isFinal(c.getModifiers()), "public and final");
-        Set<String> due = new TreeSet<>(Set.of(FACE.split("\\|")));
+        Set<String> due = methodsOf(document);
         Set<String> names = new TreeSet<>();
         Set<String> found = new TreeSet<>();
         for (Method m : c.getDeclaredMethods()) {
@@ -58,17 +101,14 @@ public final class FaceTest {
         for (Constructor<?> made : c.getDeclaredConstructors()) {
             must(Modifier.isPublic(made.getModifiers()) && made.getParameterCount() == 0, "constructor " + made);
         }
-        for (Field f : c.getDeclaredFields()) {
-            boolean isOfFace = CONSTANTS.contains(f.getName());
-            must(Modifier.isPublic(f.getModifiers()) == isOfFace, "constant " + f);
-            must(isOfFace || Modifier.isPrivate(f.getModifiers()), "private " + f);
-            must(!Modifier.isStatic(f.getModifiers()) || Modifier.isFinal(f.getModifiers()), "final " + f);
-        }
+        fields(constantsOf(document));
         must(c.getDeclaredClasses().length <= 12, "some twelve classes");
         ownNames(c, names);
+        fieldsOfAny(c);
         for (Class<?> inside : c.getDeclaredClasses()) {
             must(Modifier.isStatic(inside.getModifiers()), "static " + inside);
             ownNames(inside, names);
+            fieldsOfAny(inside);
         }
     }
 
@@ -89,9 +129,22 @@ public final class FaceTest {
         must(Files.readString(Path.of(SOURCE)).chars().allMatch(c -> c < 128), "plain signs");
     }
 
-    public static void main(String[] args) throws IOException {
+    /** By the indents: a method begins with a line that ends in ") {" and ends with its brace. */
+    private static void methodsStayShort() throws IOException {
+        Matcher m = Pattern.compile("(?ms)^( {4}| {8})(?! |for|if|while|switch|\\})([^\n]*\\) \\{)\n(.*?)^\\1\\}$")
+            .matcher(Files.readString(Path.of(SOURCE)));
+        int seen = 0;
+        while (m.find()) {
+            seen++;
+            must(m.group(3).lines().count() <= MOST_LINES, "some sixty lines: " + m.group(2));
+        }
+        must(seen > METHODS_DUE, "all methods are seen");
+    }
+
+    public static void main(String[] args) throws IOException, IllegalAccessException {
         face();
         source();
+        methodsStayShort();
         System.out.println(wrong == 0 ? "the face is as due" : wrong + " not as due");
         if (wrong != 0) {
             System.exit(1);
