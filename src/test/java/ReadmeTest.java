@@ -159,7 +159,7 @@ public final class ReadmeTest {
         } finally {
             clear(room);
         }
-        System.out.println(calls.size() + " lines of use, " + commands.size() + " commands, " + wrong + " things not so");
+        System.out.println(calls.size() + " lines of use, " + commands.size() + " commands, " + wrong + " not so");
         if (wrong != 0) {
             System.exit(1);
         }
